@@ -1,9 +1,7 @@
 import java.util.Objects;
+import java.util.function.Consumer;
 
-/**
- * Counts the answers that are not as due, and ends a test by them. Some tests ask one object more
- * than 512 times, to look at all of its state: the class keeps no count of its calls.
- */
+/** Counts the answers that are not as due, and ends a test by them; and writes what tests often write. */
 final class Expect {
     private static int wrong = 0;
 
@@ -17,41 +15,18 @@ final class Expect {
         }
     }
 
-    /** The call throws exactly this, and changes nothing that can be asked for. */
-    static void thrown(String call, FragmentLog log, Class<?> due, Runnable run) {
-        String before = stateOf(log);
+    static void thrown(String call, Asked log, Class<?> due, Consumer<Asked> run) {
         Class<?> got = null;
         try {
-            run.run();
+            run.accept(log);
         } catch (RuntimeException e) {
             got = e.getClass();
         }
         same(call + " throws", got, due);
-        same("the state behind " + call, stateOf(log), before);
     }
 
-    /** All that the calls without effect answer, beside the bytes of the buffer (their checks). */
-    static String stateOf(FragmentLog log) {
-        StringBuilder state = new StringBuilder();
-        for (int what = 0; what <= 5; what++) {
-            state.append(log.count(what)).append(' ');
-        }
-        state.append("check ").append(log.check(1)).append(" first ").append(log.first()).append(" octets");
-        for (int k = 0; log.octet(k) != FragmentLog.NONE; k++) {
-            state.append(' ').append(log.octet(k));
-        }
-        state.append(" log");
-        for (int k = 0; log.log(k) != FragmentLog.NONE; k++) {
-            state.append(' ').append(log.log(k));
-        }
-        state.append(" told");
-        for (int k = 0; log.told(k, 0) != FragmentLog.NONE; k++) {
-            state.append(' ').append(log.told(k, 0)).append('/').append(log.told(k, 1));
-        }
-        return state.toString();
-    }
-
-    static String toldBy(FragmentLog log) {
+    /** What was told, as which/bytes. */
+    static String toldBy(Asked log) {
         StringBuilder told = new StringBuilder();
         for (int k = 0; log.told(k, 0) != FragmentLog.NONE; k++) {
             told.append(log.told(k, 0)).append('/').append(log.told(k, 1)).append(' ');
@@ -60,7 +35,7 @@ final class Expect {
     }
 
     /** The buffer becomes this many bytes: from, from + 1 and so on. */
-    static void fill(FragmentLog log, int many, int from) {
+    static void fill(Asked log, int many, int from) {
         log.erase();
         for (int k = 0; k < many; k += 16) {
             int at = from + k;
@@ -72,14 +47,30 @@ final class Expect {
         return (from & 255) << 24 | (from + 1 & 255) << 16 | (from + 2 & 255) << 8 | from + 3 & 255;
     }
 
-    static int raw(FragmentLog log, int kind, int many) {
+    /** A fragment by hand; its bytes begin with its kind. */
+    static int raw(Asked log, int kind, int many) {
         fill(log, many, kind);
         return log.raw(kind);
     }
 
-    static int append(FragmentLog log, int many) {
+    /** A record; its bytes begin with their number. */
+    static int append(Asked log, int many) {
         fill(log, many, many);
         return log.append();
+    }
+
+    /** Cleared to this size, with records by hand in the first block but for so many bytes: how many records. */
+    static int leave(Asked log, int size, int left) {
+        log.clear(size);
+        int many = 0;
+        int due = size - left;
+        if (due > 400) {
+            raw(log, 1, 193);
+            due -= 200;
+            many++;
+        }
+        raw(log, 1, due - 7);
+        return many + 1;
     }
 
     static void end(String test) {

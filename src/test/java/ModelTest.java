@@ -6,8 +6,7 @@ import java.util.zip.CRC32C;
 
 /** Runs of calls, drawn by fixed seeds, against the document told a second time in plain Java. */
 final class ModelTest {
-    private static final int RUNS = 4000;
-    private static final int CALLS = 512;
+    private static final int RUNS = 8000;
 
     public static void main(String[] args) {
         for (int seed = 0; seed < RUNS; seed++) {
@@ -19,15 +18,18 @@ final class ModelTest {
     private static final class Run {
         private final int seed;
         private final Random random;
-        private final FragmentLog log = new FragmentLog();
+        private final Asked log = new Asked();
         private final Model model = new Model();
         /** Small pieces make many fragments a block, large ones make many blocks a record. */
         private final int longest;
+        /** Some runs seldom look, so that the log grows full and much is told. */
+        private final int looks;
 
         Run(int seed) {
             this.seed = seed;
             random = new Random(seed);
             longest = new int[] {1, 4, 16, 60, 400}[seed % 5];
+            looks = seed % 3 == 0 ? 5 : 30;
         }
 
         void go() {
@@ -36,15 +38,11 @@ final class ModelTest {
                 log.clear(size);
                 model.clear(size);
             }
-            for (int call = 0; call < CALLS; call++) {
+            while (log.calls() < Asked.MOST_CALLS - 130) {
                 step();
-                same("count(1)", log.count(1), model.place);
-                same("count(2)", log.count(2), model.lost ? 1 : 0);
             }
-            same("told", Expect.toldBy(log), model.toldText());
-            for (int k = -1; k <= model.bytes.size(); k++) {
-                same("log(" + k + ")", log.log(k), at(model.bytes, k));
-            }
+            look();
+            lookAtAll();
         }
 
         private void same(String call, Object got, Object due) {
@@ -52,25 +50,44 @@ final class ModelTest {
         }
 
         private void step() {
-            int drawn = random.nextInt(100);
-            if (drawn < 14) {
+            int drawn = random.nextInt(70 + looks);
+            if (drawn < 10) {
                 refill(random.nextInt(longest + 1));
-            } else if (drawn < 32) {
+            } else if (drawn < 28) {
                 same("append()", log.append(), model.append());
-            } else if (drawn < 48) {
+            } else if (drawn < 44) {
                 int kind = random.nextInt(10) == 0 ? random.nextInt(256) : random.nextInt(6);
                 same("raw(" + kind + ")", log.raw(kind), model.raw(kind));
-            } else if (drawn < 58) {
+            } else if (drawn < 56) {
                 damage();
-            } else if (drawn < 59) {
+            } else if (drawn < 57) {
                 int n = random.nextInt(model.bytes.size() + 1);
                 same("cut(" + n + ")", log.cut(n), model.cut(n));
-            } else if (drawn < 66) {
-                int place = drawn < 60 ? random.nextInt(4097) : random.nextInt(model.bytes.size() + 9);
-                place = drawn == 65 ? 0 : Math.min(4096, place);
+            } else if (drawn < 63) {
+                int place = drawn < 58 ? random.nextInt(4097) : random.nextInt(model.bytes.size() + 9);
+                place = drawn == 62 ? 0 : Math.min(4096, place);
                 same("begin(" + place + ")", log.begin(place), model.begin(place));
+            } else if (drawn < 70) {
+                refused();
             } else {
                 look();
+            }
+        }
+
+        /** What throws changes nothing: the model is not called at all. */
+        private void refused() {
+            int beyond = random.nextBoolean() ? -1 - random.nextInt(9) : 4097 + random.nextInt(9);
+            Class<?> argument = IllegalArgumentException.class;
+            switch (random.nextInt(9)) {
+                case 0 -> Expect.thrown("clear", log, argument, one -> one.clear(beyond));
+                case 1 -> Expect.thrown("feed", log, argument, one -> one.feed(beyond, 1, 2, 3, 4));
+                case 2 -> Expect.thrown("check", log, argument, one -> one.check(beyond));
+                case 3 -> Expect.thrown("raw", log, argument, one -> one.raw(beyond));
+                case 4 -> Expect.thrown("put", log, IndexOutOfBoundsException.class, one -> one.put(beyond, 0));
+                case 5 -> Expect.thrown("cut", log, argument, one -> one.cut(beyond));
+                case 6 -> Expect.thrown("begin", log, argument, one -> one.begin(beyond));
+                case 7 -> Expect.thrown("count", log, argument, one -> one.count(beyond));
+                default -> Expect.thrown("told", log, argument, one -> one.told(0, beyond));
             }
         }
 
@@ -100,13 +117,25 @@ final class ModelTest {
         private void look() {
             same("read()", log.read(), model.read());
             same("first()", log.first(), model.first);
-            for (int k : new int[] {0, 1, 8, 9, 56, 57, 399, 400}) {
-                same("octet(" + k + ")", log.octet(k), at(model.record, k));
-            }
-            same("count(0)", log.count(0), model.bytes.size());
+            int k = random.nextInt(model.record.size() + 1);
+            same("octet(" + k + ")", log.octet(k), at(model.record, k));
+            same("count(1)", log.count(1), model.place);
+            same("count(2)", log.count(2), model.lost ? 1 : 0);
             same("count(3)", log.count(3), model.told.size());
             same("count(4)", log.count(4), model.toldBytes());
+        }
+
+        private void lookAtAll() {
+            same("count(0)", log.count(0), model.bytes.size());
             same("count(5)", log.count(5), model.buffer.size());
+            same("check(1)", log.check(1), Model.check(1, model.buffer));
+            while (log.calls() < Asked.MOST_CALLS - 3) {
+                int k = random.nextInt(model.bytes.size() + 1);
+                same("log(" + k + ")", log.log(k), at(model.bytes, k));
+                int one = random.nextInt(model.told.size() + 1);
+                same("told(" + one + ", 0)", log.told(one, 0), model.toldAt(one, 0));
+                same("told(" + one + ", 1)", log.told(one, 1), model.toldAt(one, 1));
+            }
         }
     }
 
@@ -204,10 +233,8 @@ final class ModelTest {
             return told.stream().mapToInt(one -> one[1]).sum();
         }
 
-        String toldText() {
-            StringBuilder text = new StringBuilder();
-            told.stream().limit(100).forEach(one -> text.append(one[0]).append('/').append(one[1]).append(' '));
-            return text.toString().trim();
+        int toldAt(int k, int what) {
+            return k < told.size() && k < 100 ? told.get(k)[what] : FragmentLog.NONE;
         }
 
         int read() {
