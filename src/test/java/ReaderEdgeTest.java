@@ -1,4 +1,7 @@
-/** The edges that promises 10 to 15 and READING and BEGINNING name, a sentence a test; what is refused is in RefusedTest. */
+/**
+ * The edges that promises 10 to 15 and READING and BEGINNING name, a sentence a test; what is refused is in
+ * RefusedTest.
+ */
 final class ReaderEdgeTest {
     private static final int NONE = FragmentLog.NONE;
 
@@ -510,7 +513,10 @@ final class ReaderEdgeTest {
         }
     }
 
-    /** "MIDDLE is passed over, LAST also, and it is no longer LOST then; with ALL, FIRST, or another KIND it is no longer LOST." */
+    /**
+     * "MIDDLE is passed over, LAST also, and it is no longer LOST then; with ALL, FIRST, or another KIND it is no
+     * longer LOST."
+     */
     private static void lostAndTheKinds() {
         int[][] due = {{3, 1}, {4, 0}, {1, 0}, {2, 0}, {0, 0}, {5, 0}, {255, 0}};
         for (int[] row : due) {
@@ -795,7 +801,7 @@ final class ReaderEdgeTest {
             log.clear(512);
             int bytes = 0;
             for (int k = 0; k < often; k++) {
-                Expect.raw(log, k % 2 == 0 ? 3 : 9, bytesToTell(k));
+                Expect.raw(log, isUnknown(k) ? 9 : 3, bytesToTell(k));
                 bytes += bytesToTell(k);
             }
             log.read();
@@ -804,7 +810,7 @@ final class ReaderEdgeTest {
             Expect.same("14: bytes, " + call, log.count(4), bytes);
             for (int k : new int[] {0, 1, 97, 98, 99, 100, 101, 102}) {
                 boolean kept = k < often && k < 100;
-                Expect.same("15: told(" + k + ", 0) " + call, log.told(k, 0), kept ? 5 + k % 2 : NONE);
+                Expect.same("15: told(" + k + ", 0) " + call, log.told(k, 0), kept ? whichToTell(k) : NONE);
                 Expect.same("15: told(" + k + ", 1) " + call, log.told(k, 1), kept ? bytesToTell(k) : NONE);
             }
             Expect.same("15: told(-1, 0) " + call, log.told(-1, 0), NONE);
@@ -814,11 +820,20 @@ final class ReaderEdgeTest {
         }
     }
 
+    /** By turns, and so that the hundredth and the next differ from the first ones. */
+    private static boolean isUnknown(int k) {
+        return (k % 2 == 1) != (k >= 74);
+    }
+
+    private static int whichToTell(int k) {
+        return isUnknown(k) ? FragmentLog.UNKNOWN : FragmentLog.UNBEGUN;
+    }
+
     /** 37 fragments of so many bytes, 5 and 9 by turns but for one, fill a block of 512. */
     private static int bytesToTell(int k) {
         if (k % 37 == 36) {
             return 1;
         }
-        return k % 2 == 0 ? 5 : 9;
+        return isUnknown(k) ? 9 : 5;
     }
 }

@@ -24,7 +24,8 @@ final class ReaderTest {
         Expect.append(log, 20);
         Expect.append(log, 150);
         Expect.append(log, 4);
-        int[][] due = {{0, 10, 0}, {10, 20, 17}, {30, 150, 44}, {50, 4, 222}, {100, 4, 222}, {200, 4, 222}, {230, NONE, NONE}};
+        int[][] due = {{0, 10, 0}, {10, 20, 17}, {30, 150, 44}, {50, 4, 222}, {100, 4, 222}, {200, 4, 222},
+            {230, NONE, NONE}};
         for (int[] row : due) {
             Expect.same("10: begin(" + row[0] + ")", log.begin(row[0]), row[0] / 64 * 64);
             Expect.same("11: read from " + row[0], log.read(), row[1]);
