@@ -195,8 +195,9 @@ public final class FragmentLog {
             return k >= 0 && k < many;
         }
 
+        /** Looks at k itself, not by has: the calls that lead here are deep enough. */
         int at(int k) {
-            return has(k) ? held[k] & BYTE_LIMIT : NONE;
+            return k >= 0 && k < many ? held[k] & BYTE_LIMIT : NONE;
         }
 
         void add(int value) {
